@@ -127,6 +127,10 @@ final class AheadTest {
         StateJuggler w = CHECK.told("thing a 1 1 0; thing b 1 1 1; pattern p 8 0 0 0 8 0 0 0; pattern q 0 8 0 0 0 8 0 0;");
         CHECK.due("into 80008000", 1, w.into(0, -1));
         CHECK.due("by 5", 5, w.into(0, 0));
+        // 7 0 0 0 0 0 0 9 lands in 0 and 8
+        StateJuggler far = CHECK.told("thing a 1 1 0; thing b 1 1 1; pattern p 7 0 0 0 0 0 0 9;");
+        CHECK.due("into 70000009", 1, far.into(0, -1));
+        CHECK.due("by 9", 9, far.into(0, 0));
         // by 3 and 6 or by 7 and 2, the first the lowest
         CHECK.due("into 08000800", 2, w.into(1, -1));
         CHECK.due("the lowest first", 3, w.into(1, 0));
@@ -174,6 +178,11 @@ final class AheadTest {
         y.use(1);
         // beside 5: 5, 14, 23, 32, 41, 50, 59 and 6, 15, 24, 31, 38, 45, 52, 59
         CHECK.due("at 59", -2, y.room(1));
+        // a goes 6, 15, 24, ...; all but one that lands in 9 come upon it
+        StateJuggler z = CHECK.told("thing a 1 1 7; thing b 1 1 0; pattern z 0; pattern p 7 9 9 9 9 9 9;");
+        z.beats(1);
+        z.use(1);
+        CHECK.due("in 9", 9, z.room(1));
     }
 
     private static void busiest() {

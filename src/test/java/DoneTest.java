@@ -193,6 +193,9 @@ final class DoneTest {
         x.beats(1);
         CHECK.due("pays by up 2, caught 0", 20, x.count(8));
         CHECK.due("tires by up 2", 2, x.count(3));
+        StateJuggler flat = CHECK.told("thing a 1 1 0; pattern p 4; pays = height + 5;");
+        flat.beats(1);
+        CHECK.due("pays at height 0", 5, flat.count(8));
         StateJuggler y = CHECK.told("thing a 1 1 0; pattern p 1; pays = tired; tires = 7 + tired;");
         y.beats(1);
         CHECK.due("not tired as it began", 0, y.count(8));

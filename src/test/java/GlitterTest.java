@@ -95,6 +95,9 @@ final class GlitterTest {
         CHECK.due("k -1", -1, x.watch(-1));
         CHECK.due("nothing up", -2, new StateJuggler().watch(0));
         CHECK.due("nothing told", -1, new StateJuggler().watch(1));
+        StateJuggler seven = CHECK.told("thing a 1 1 2; thing b 1 1 3; thing c 1 1 4; thing d 1 1 5; thing e 1 1 6;"
+                + "thing f 1 1 7; thing g 1 1 8;");
+        CHECK.due("seven", 2, seven.watch(0));
         // two that clash: the second is never in hand
         StateJuggler y = CHECK.told("thing a 1 1 9; thing b 1 1 9; thing c 1 1 9;");
         CHECK.due("a at 9", 9, y.watch(0));

@@ -81,14 +81,19 @@ final class PatternsTest {
         CHECK.due("the fewest", 1, y.turned(0, 1));
         CHECK.due("the fewest back", 2, y.turned(1, 0));
         CHECK.due("twice as long", -2, y.turned(0, 2));
+        StateJuggler z = CHECK.told("pattern a 1 2 3; pattern b 9 2 3; pattern c 1 2 9; pattern d 1;");
+        CHECK.due("another first", -2, z.turned(0, 1));
+        CHECK.due("another last", -2, z.turned(0, 2));
+        CHECK.due("one alone", -2, z.turned(3, 0));
     }
 
     private static void spans() {
-        StateJuggler x = CHECK.told("pattern a 5 3 9 1; pattern b 0; pattern c 2 7;");
+        StateJuggler x = CHECK.told("pattern a 5 3 9 1; pattern b 0; pattern c 2 7; pattern d 8 7;");
         CHECK.due("highest", 9, x.span(0));
         CHECK.due("0", 0, x.span(1));
         CHECK.due("the last", 7, x.span(2));
-        CHECK.due("pattern 3", -1, x.span(3));
+        CHECK.due("the first", 8, x.span(3));
+        CHECK.due("pattern 4", -1, x.span(4));
         CHECK.due("pattern -1", -1, x.span(-1));
     }
 
@@ -123,12 +128,18 @@ final class PatternsTest {
         CHECK.due("19: 10 and 0", 0, y.swaps(2));
         // 5 0: 1 and 4; 5 1: 3 and 3; 0 1: 2 and -1
         CHECK.due("501", 2, y.swaps(3));
+        // the last two alone: 9 and 0
+        StateJuggler z = CHECK.told("pattern a 0 0 0 0 0 0 1 8; pattern b 7 5 3 1;");
+        CHECK.due("00000018", 1, z.swaps(0));
+        CHECK.due("7531", 6, z.swaps(1));
     }
 
     private static void ways() {
         StateJuggler x = new StateJuggler();
         CHECK.due("1, 7, 7", 1, x.ways(1, 7, 7, -1));
         CHECK.due("1, 6, 7", 0, x.ways(1, 6, 7, -1));
+        CHECK.due("1, 7, 3", 1, x.ways(1, 7, 3, -1));
+        CHECK.due("1, 7, 3: it", 3, x.ways(1, 7, 3, 0));
         CHECK.due("1, 6, 7, 0", -2, x.ways(1, 6, 7, 0));
         // 3 HEIGHTS that keep 1: 111, 003, 030, 300, 012 in the rows that close: 0 1 2 -> 0, 2, 1; 0 2 1 -> 0, 0
         CHECK.due("3, 7, 1", 7, x.ways(3, 7, 1, -1));

@@ -7,6 +7,7 @@ final class StandingTest {
         patterns();
         tellsOfOne();
         lawsAreReckoned();
+        lawsOneByOne();
         lawsAreHeld();
         varsAreNow();
         counts();
@@ -115,6 +116,20 @@ final class StandingTest {
         force("if 2 < 1 then 4 else if 1 / 0 < 1 then 5 else 6", 0);
         force("if 1 < 2 then 1 / 0 else 5", 0);
         force("1+(1*(1+(1*(1+(1*(1+1*2))))))-1", 5);
+    }
+
+    /** A LAW that fails leaves nothing behind for the next one; the longest one is worked out whole. */
+    private static void lawsOneByOne() {
+        StateJuggler x = CHECK.told("thing a 2 3 0; force = 1 + (2 + (3 + 1 / (edge - 3))); pays = 1 + 2 * weight;");
+        for (int i = 0; i < 40; i++) {
+            CHECK.due("divided by 0", 0, x.tells(0, 0, 2));
+            CHECK.due("the next law", 5, x.tells(0, 0, 3));
+        }
+        StateJuggler y = CHECK.told("thing a 2 3 0; force=1" + "-1".repeat(45) + ";tires=1" + "+0".repeat(140) + "+6;");
+        CHECK.due("long", -44, y.tells(0, 0, 2));
+        CHECK.due("longest", 7, y.tells(0, 0, 0));
+        StateJuggler z = CHECK.told("thing a 2 3 0; pays = 4; pays=1" + "+0".repeat(192) + "+4;");
+        CHECK.due("the last one", 5, z.tells(0, 0, 3));
     }
 
     private static void lawsAreHeld() {

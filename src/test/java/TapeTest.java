@@ -11,9 +11,11 @@ final class TapeTest {
         syntax();
         room();
         tokenRoom();
+        tokenRoomAnywhere();
         senses();
         faultChangesNothing();
         goodTextBeginsAnew();
+        thirdText();
         CHECK.end();
     }
 
@@ -200,6 +202,29 @@ final class TapeTest {
         CHECK.fault(times(100, "seed 1;") + times(100, "seed 2;"), 2, 133 * 7 + 5);
     }
 
+    /** Whichever TOKEN of a text is the 401st: ROOM at it. */
+    private static void tokenRoomAnywhere() {
+        String[] tokens = ("thing a 1 2 3 ; pattern p 1 2 ; tires = if ( 1 ) < 2 then edge else 3 + 4 * 5 ; rests 1 ; seed 1 ;"
+                + " drops = if 1 < 2 then 3 else if 2 < 3 then ( 1 + ( up ) ) else 7 ;").split(" ");
+        for (int i = 0; i < tokens.length; i++) {
+            // as many TOKENS ahead of the sample that its i-th is the 401st
+            int ahead = 400 - i;
+            StringBuilder text = new StringBuilder();
+            if (ahead % 2 == 1) {
+                text.append("seed 1;");
+                ahead -= 3;
+            }
+            text.append(tokensOfLaw((ahead - 2) / 2)).append(";");
+            int place = -1;
+            for (int j = 0; j < tokens.length; j++) {
+                text.append(' ');
+                place = j == i ? text.length() : place;
+                text.append(tokens[j]);
+            }
+            CHECK.fault(text.toString(), 2, place);
+        }
+    }
+
     private static void senses() {
         CHECK.fault("thing a 1 1 1; thing a 1 1 1;", 3, 21);
         CHECK.fault("thing a 1 1 1; pattern a 3;", 3, 23);
@@ -221,6 +246,12 @@ final class TapeTest {
         CHECK.fault("thing a 0 1 1; thing a 1 1 1;", 5, 8);
         CHECK.fault("thing a 0 1 1; thing a 1 1 1", 1, 28);
         CHECK.fault("rests 100; pattern p 1 2 3 4 5 6 7 8 9;", 2, 37);
+        String all = "thing a 1 1 1;thing b 1 1 1;thing c 1 1 1;thing d 1 1 1;thing e 1 1 1;thing f 1 1 1;thing g 1 1 1;"
+                + "pattern h 1;pattern i 1;pattern j 1;pattern k 1;";
+        CHECK.fault(all + "pattern l 1;", 0, -1);
+        for (char name = 'a'; name <= 'k'; name++) {
+            CHECK.fault(all + "pattern " + name + " 1;", 3, all.length() + 8);
+        }
     }
 
     private static void faultChangesNothing() {
@@ -243,8 +274,48 @@ final class TapeTest {
         CHECK.due("weight behind a fault", 1, x.thing(0, 0));
         CHECK.due("undo behind a fault", true, x.undo());
         CHECK.due("restore behind a fault", true, x.restore(1));
-        x.read();
+        CHECK.due("a good read behind a fault", 0, x.read());
         CHECK.due("place behind a good read", -1, x.place());
+        Check.put(x, "x");
+        CHECK.due("read of SYNTAX", 1, x.read());
+        Check.put(x, "thing a 2 2 2;");
+        CHECK.due("a good read behind SYNTAX", 0, x.read());
+        CHECK.due("place behind it", -1, x.place());
+    }
+
+    /** A third text stands where the first one stood, and has nothing of it. */
+    private static void thirdText() {
+        StateJuggler x = CHECK.told("thing a 1 1 0; thing b 2 2 0; pattern p 2; pattern q 3; rests 9; seed 42; tires = 50;"
+                + "drops = 100; force = 3; pays = 4;");
+        x.beats(2);
+        x.use(1);
+        x.hold(0);
+        Check.put(x, "thing z 9 9 9;");
+        CHECK.due("second text", 0, x.read());
+        CHECK.due("slot 0 holds nothing", 0, x.count(14));
+        Check.put(x, "thing c 3 8 0; thing a 4 7 2; pattern r 1 3;");
+        CHECK.due("third text", 0, x.read());
+        int[] counts = {2, 1, 0, 0, 3, 0, 0, 0, 0, 0, 1, 0, 0, 0, 0, 7, 0, 0};
+        for (int what = 0; what < counts.length; what++) {
+            CHECK.due("third text: count " + what, counts[what], x.count(what));
+        }
+        CHECK.due("force not told", 8, x.tells(0, 0, 2));
+        CHECK.due("pays not told", 0, x.tells(0, 0, 3));
+        x.beats(1);
+        CHECK.due("drops not told", 1, x.thing(0, 4));
+        CHECK.due("tires not told", 0, x.count(3));
+        Check.put(x, "thing c 1 1 0; pattern r 9; tires = 5; drops = 7;");
+        CHECK.due("fourth text", 0, x.read());
+        x.set(1);
+        x.beats(1);
+        x.set(1);
+        x.beats(1);
+        x.set(1);
+        x.beats(1);
+        // LOT 100 of 0 and 8 is 6; of the first text's 42 it is 90
+        CHECK.due("seed 0 if not told", 1, x.count(6));
+        x.beats(1);
+        CHECK.due("rests 1 if not told", 9, x.count(3));
     }
 
     private static void goodTextBeginsAnew() {
@@ -254,6 +325,7 @@ final class TapeTest {
         x.tell(3, true);
         x.hold(1);
         x.set(7);
+        CHECK.due("b is dropped", 2, x.count(5));
         Check.put(x, "thing c 3 8 2;");
         CHECK.due("second text", 0, x.read());
         int[] counts = {1, 0, 0, 0, 1, 0, 0, 0, 0, -2, 3, 0, 0, 0, 0, 3, 0, 0};
