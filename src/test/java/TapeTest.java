@@ -283,17 +283,20 @@ final class TapeTest {
         CHECK.due("place behind it", -1, x.place());
     }
 
-    /** A third text stands where the first one stood, and has nothing of it. */
+    /** The class keeps two texts in turn: a third one stands where the first one stood, and has nothing of it. */
     private static void thirdText() {
         StateJuggler x = CHECK.told("thing a 1 1 0; thing b 2 2 0; pattern p 2; pattern q 3; rests 9; seed 42; tires = 50;"
                 + "drops = 100; force = 3; pays = 4;");
-        x.beats(2);
+        x.beats(3);
+        // an odd beat: the row of two HEIGHTS below would begin with its second
         x.use(1);
         x.hold(0);
-        Check.put(x, "thing z 9 9 9;");
+        Check.put(x, "pattern z 9;");
         CHECK.due("second text", 0, x.read());
         CHECK.due("slot 0 holds nothing", 0, x.count(14));
-        Check.put(x, "thing c 3 8 0; thing a 4 7 2; pattern r 1 3;");
+        x.beats(1);
+        x.use(0);
+        Check.put(x, "thing c 3 8 0; thing a 4 7 9; pattern r 1 3; tires = 5; drops = 7;");
         CHECK.due("third text", 0, x.read());
         int[] counts = {2, 1, 0, 0, 3, 0, 0, 0, 0, 0, 1, 0, 0, 0, 0, 7, 0, 0};
         for (int what = 0; what < counts.length; what++) {
@@ -302,20 +305,20 @@ final class TapeTest {
         CHECK.due("force not told", 8, x.tells(0, 0, 2));
         CHECK.due("pays not told", 0, x.tells(0, 0, 3));
         x.beats(1);
-        CHECK.due("drops not told", 1, x.thing(0, 4));
-        CHECK.due("tires not told", 0, x.count(3));
-        Check.put(x, "thing c 1 1 0; pattern r 9; tires = 5; drops = 7;");
-        CHECK.due("fourth text", 0, x.read());
+        CHECK.due("caught", 1, x.thing(0, 4));
         x.set(1);
         x.beats(1);
-        x.set(1);
+        CHECK.due("tired by two", 10, x.count(3));
+        // LOT 100 of 0 and 8 is 6, less than 7; of the first text's 42 it is 90
         x.beats(1);
-        x.set(1);
-        x.beats(1);
-        // LOT 100 of 0 and 8 is 6; of the first text's 42 it is 90
         CHECK.due("seed 0 if not told", 1, x.count(6));
         x.beats(1);
         CHECK.due("rests 1 if not told", 9, x.count(3));
+        for (int i = 0; i < 12; i++) {
+            Check.put(x, "thing c 3 8 0; pays=1" + "+0".repeat(180) + "+" + i + ";");
+            CHECK.due("a long text again", 0, x.read());
+            CHECK.due("a long law again", i + 1, x.tells(0, 0, 3));
+        }
     }
 
     private static void goodTextBeginsAnew() {
