@@ -1019,13 +1019,13 @@ public final class StateJuggler {
             if (!take(word) || !take('=')) {
                 return false;
             }
-            for (int ifs = 0; kind == Tape.IF; ifs++) {
-                if (ifs >= MOST_IFS) {
-                    return refuse(NO_ROOM);
-                }
+            for (int ifs = 0; kind == Tape.IF && ifs < MOST_IFS; ifs++) {
                 if (!condition(text)) {
                     return false;
                 }
+            }
+            if (kind == Tape.IF) {
+                return refuse(NO_ROOM);
             }
             if (!expression(text, 0)) {
                 return false;
