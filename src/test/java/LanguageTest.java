@@ -15,17 +15,13 @@ import java.util.regex.Pattern;
 /** The face of the document, and those rules of ../shared/LANGUAGE.md that can be seen without running anything. */
 final class LanguageTest {
     private static final Check CHECK = new Check();
-    private static final String FACE = "int feed(int,int,int,int,int);int back(int);int read();int place();"
-            + "int thing(int,int);int pattern(int,int);int tells(int,int,int);boolean throwIn(int,int);"
-            + "boolean use(int);boolean set(int);int beats(int);boolean undo();int closes(int,int);int lands();"
-            + "int inHand(int);int clash();int into(int,int);int joined(int,int,int);int turned(int,int);int span(int);"
-            + "int orbits(int);int swaps(int);int room(int);int handover();int limit(int);int busiest(int,int);"
-            + "int load(int);int gap();int order(int);int ways(int,int,int,int);int light(int,int);int rule(int);"
-            + "int down();int then(int,int);int year(int,int);int tell(int,boolean);int forget();int glitters(int,int);"
-            + "int watch(int);boolean hold(int);boolean restore(int);int count(int)";
+    private static final Set<String> LIBRARY = Set.of("Math.max", "Math.min", "Math.abs", "Math.floorDiv", "Math.floorMod",
+            "Integer.bitCount", "Integer.compare", "System.arraycopy", "Arrays.fill", "Arrays.copyOf", "Arrays.copyOfRange");
+    private static final Set<Class<?>> CONSTANTS = Set.of(int.class, long.class, boolean.class, char.class, String.class,
+            int[].class, long[].class, char[].class, byte[].class);
 
     public static void main(String[] args) throws IOException {
-        face();
+        face(faceOf(Files.readString(Path.of("../shared/DOC.md"), StandardCharsets.UTF_8)));
         classes();
         source(Files.readString(Path.of("src/main/java/StateJuggler.java"), StandardCharsets.ISO_8859_1));
         CHECK.end();
@@ -35,7 +31,24 @@ final class LanguageTest {
         CHECK.due(rule, true, so);
     }
 
-    private static void face() {
+    /** The methods that stand in the document's block of code, without the names of their parameters. */
+    private static Set<String> faceOf(String document) {
+        Set<String> methods = new TreeSet<>();
+        Matcher block = Pattern.compile("(?s)## The public face.*?```java\n(.*?)```").matcher(document);
+        String lines = block.find() ? block.group(1) : "";
+        Matcher method = Pattern.compile("public (\\w+ \\w+\\(.*?\\));").matcher(lines);
+        while (method.find()) {
+            methods.add(method.group(1).replaceAll("(int|boolean) \\w+(?=[,)])", "$1").replace(", ", ","));
+        }
+        holds("the document has a face", methods.size() > 40);
+        holds("it has one constructor", lines.contains("public StateJuggler();"));
+        holds("it has NONE", lines.contains("public static final int NONE = -1;"));
+        int members = lines.split("public ", -1).length - 1;
+        CHECK.due("all of its members are seen", methods.size() + 3, members);
+        return methods;
+    }
+
+    private static void face(Set<String> due) {
         Set<String> found = new TreeSet<>();
         for (Method method : StateJuggler.class.getDeclaredMethods()) {
             if (Modifier.isPrivate(method.getModifiers())) {
@@ -48,7 +61,7 @@ final class LanguageTest {
             found.add(one.append(")").toString());
             holds(method.getName() + " is public", Modifier.isPublic(method.getModifiers()));
         }
-        holds("the face, not " + found, found.equals(new TreeSet<>(Set.of(FACE.split(";")))));
+        holds("the face, not " + found, found.equals(due));
         for (Field field : StateJuggler.class.getDeclaredFields()) {
             boolean none = field.getName().equals("NONE");
             holds(field.getName() + " is hidden", none || Modifier.isPrivate(field.getModifiers()));
@@ -56,6 +69,8 @@ final class LanguageTest {
         Constructor<?>[] constructors = StateJuggler.class.getDeclaredConstructors();
         CHECK.due("one constructor", 1, constructors.length);
         CHECK.due("without arguments", 0, constructors[0].getParameterCount());
+        holds("the constructor is public", Modifier.isPublic(constructors[0].getModifiers()));
+        holds("the class is public", Modifier.isPublic(StateJuggler.class.getModifiers()));
         holds("the class is final", Modifier.isFinal(StateJuggler.class.getModifiers()));
         CHECK.due("NONE", -1, StateJuggler.NONE);
     }
@@ -72,6 +87,7 @@ final class LanguageTest {
         inOneClass(StateJuggler.class, face);
         for (Class<?> one : inside) {
             holds(one + " is static", Modifier.isStatic(one.getModifiers()));
+            holds(one + " is hidden", !Modifier.isPublic(one.getModifiers()) && !Modifier.isProtected(one.getModifiers()));
             inOneClass(one, face);
         }
     }
@@ -82,6 +98,7 @@ final class LanguageTest {
             boolean isStatic = Modifier.isStatic(field.getModifiers());
             fields += isStatic ? 0 : 1;
             holds(field + " is final if static", !isStatic || Modifier.isFinal(field.getModifiers()));
+            holds(field + " is a constant if static", !isStatic || CONSTANTS.contains(field.getType()));
         }
         holds(one + " has some twenty fields", fields <= 20);
         for (Method method : one.getDeclaredMethods()) {
@@ -105,6 +122,10 @@ final class LanguageTest {
         Matcher imports = Pattern.compile("import ([^;]*);").matcher(bare);
         while (imports.find()) {
             holds("import " + imports.group(1), imports.group(1).equals("java.util.Arrays"));
+        }
+        Matcher calls = Pattern.compile("\\b(?:Math|Integer|Long|System|Arrays|String|Character)\\.\\w+").matcher(bare);
+        while (calls.find()) {
+            holds(calls.group() + " is of the library allowed", LIBRARY.contains(calls.group()));
         }
         holds("texts are not joined by +", !Pattern.compile("\"\"\\s*\\+|\\+\\s*\"\"").matcher(bare).find());
         for (char sign : whole.toCharArray()) {
